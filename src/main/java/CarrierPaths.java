@@ -45,7 +45,7 @@ public final class CarrierPaths {
     private final Rings rings;
     private final Fleet fleet;
     private final Jobs jobs;
-    private final GivingOut givingOut;
+    private final Choice choice;
     private int now;
 
     public CarrierPaths(int points) {
@@ -55,7 +55,7 @@ public final class CarrierPaths {
         this.rings = new Rings();
         this.fleet = new Fleet();
         this.jobs = new Jobs();
-        this.givingOut = new GivingOut(this.roads, this.fleet, this.jobs);
+        this.choice = new Choice();
         this.now = 0;
     }
 
@@ -124,7 +124,9 @@ public final class CarrierPaths {
     }
 
     public int assign() {
-        return givingOut.giveOut();
+        offerJobs();
+        choice.settle();
+        return giveOut();
     }
 
     public int step(int carrier) throws IndexOutOfBoundsException {
@@ -273,6 +275,37 @@ public final class CarrierPaths {
 
     private static int asNumber(boolean is) {
         return is ? 1 : 0;
+    }
+
+    private void offerJobs() {
+        choice.begin(jobs.size(), fleet.size());
+        for (int job = 0; job < jobs.size(); job++) {
+            for (int carrier = 0; carrier < fleet.size(); carrier++) {
+                int travel = emptyTravel(carrier, job);
+                if (jobs.isWaiting(job) && fleet.isIdle(carrier) && travel < FAR) {
+                    choice.offer(job, carrier, travel);
+                }
+            }
+        }
+    }
+
+    private int giveOut() {
+        int travel = 0;
+        int given = 0;
+        for (int job = 0; job < jobs.size(); job++) {
+            int carrier = choice.carrierFor(job);
+            if (carrier != NONE) {
+                jobs.give(job, carrier);
+                fleet.takeJob(carrier, job);
+                travel += emptyTravel(carrier, job);
+                given++;
+            }
+        }
+        return given == 0 ? NONE : travel;
+    }
+
+    private int emptyTravel(int carrier, int job) {
+        return roads.leastTime(fleet.pointOf(carrier), jobs.fromOf(job));
     }
 
     private int load(int job) {
@@ -767,98 +800,90 @@ public final class CarrierPaths {
     }
 
     /**
-     * Gives jobs out. What a choice is worth is one number, A_JOB for each job given less the
-     * empty travel, so that the most jobs come first and the least travel second. The best worth
-     * is kept for each job on and each set of carriers that earlier jobs have taken; then each
-     * job in turn takes the least carrier with which the best is still reached.
+     * Which carrier each job is given to, of those that it is offered to. What a choice is worth
+     * is one number, A_JOB for each job given less the empty travel, so that the most jobs come
+     * first and the least travel second. The best worth is kept for each job on and each set of
+     * carriers that earlier jobs have taken; then each job in turn takes the least carrier with
+     * which the best is still reached.
      */
-    private static final class GivingOut {
+    private static final class Choice {
         /** More than the empty travel of all carriers together can be. */
         private static final int A_JOB = MOST_CARRIERS * MOST_POINTS * LONGEST_TIME;
 
-        private final Roads roads;
-        private final Fleet fleet;
-        private final Jobs jobs;
-        /** By job and carrier; 0 where the carrier may not have the job. */
+        /** By job and carrier; 0 where the job is not offered. */
         private final int[] worths = new int[MOST_JOBS * MOST_CARRIERS];
         /** By job and taken carriers; the row behind the last job is never written and stays 0. */
         private final int[] best = new int[(MOST_JOBS + 1) << MOST_CARRIERS];
+        private final int[] chosen = new int[MOST_JOBS];
+        private int jobCount;
+        private int carrierCount;
+        /** The carriers to which some job is offered, as bits: only their sets matter. */
+        private int able;
 
-        GivingOut(Roads roads, Fleet fleet, Jobs jobs) {
-            this.roads = roads;
-            this.fleet = fleet;
-            this.jobs = jobs;
+        Choice() {
+            this.jobCount = 0;
+            this.carrierCount = 0;
+            this.able = 0;
         }
 
-        /** The empty travel; NONE if no job is given out. */
-        int giveOut() {
-            int able = weigh();
-            if (able == 0) {
-                return NONE;
+        void begin(int jobCount, int carrierCount) {
+            this.jobCount = jobCount;
+            this.carrierCount = carrierCount;
+            this.able = 0;
+            for (int i = 0; i < worths.length; i++) {
+                worths[i] = 0;
             }
-            findBest(able);
+        }
+
+        void offer(int job, int carrier, int travel) {
+            worths[job * MOST_CARRIERS + carrier] = A_JOB - travel;
+            able |= 1 << carrier;
+        }
+
+        void settle() {
+            for (int job = jobCount - 1; job >= 0; job--) {
+                findBest(job);
+            }
             int taken = 0;
-            int travel = 0;
-            for (int job = 0; job < jobs.size(); job++) {
+            for (int job = 0; job < jobCount; job++) {
                 int carrier = leastCarrier(job, taken);
-                if (carrier != NONE) {
-                    taken |= 1 << carrier;
-                    travel += A_JOB - worthOf(job, carrier);
-                    jobs.give(job, carrier);
-                    fleet.takeJob(carrier, job);
-                }
+                chosen[job] = carrier;
+                taken |= carrier == NONE ? 0 : 1 << carrier;
             }
-            return travel;
         }
 
-        /** Fills the worths; which carriers may have a job at all, as bits. */
-        private int weigh() {
-            int able = 0;
-            for (int job = 0; job < jobs.size(); job++) {
-                for (int carrier = 0; carrier < fleet.size(); carrier++) {
-                    int worth = mayHave(carrier, job) ? A_JOB - travelTo(job, carrier) : 0;
-                    worths[job * MOST_CARRIERS + carrier] = worth;
-                    able |= worth > 0 ? 1 << carrier : 0;
-                }
-            }
-            return able;
+        /** NONE if the job is not given out. */
+        int carrierFor(int job) {
+            return chosen[job];
         }
 
-        private boolean mayHave(int carrier, int job) {
-            return jobs.isWaiting(job) && fleet.isIdle(carrier)
-                    && roads.hasWay(fleet.pointOf(carrier), jobs.fromOf(job));
-        }
-
-        private int travelTo(int job, int carrier) {
-            return roads.leastTime(fleet.pointOf(carrier), jobs.fromOf(job));
-        }
-
-        private int worthOf(int job, int carrier) {
-            return worths[job * MOST_CARRIERS + carrier];
-        }
-
-        private int bestFrom(int job, int taken) {
-            return best[(job << MOST_CARRIERS) + taken];
-        }
-
-        private void findBest(int able) {
-            for (int job = jobs.size() - 1; job >= 0; job--) {
-                for (int taken = 0; taken <= able; taken++) {
-                    if ((taken & ~able) == 0) {
-                        best[(job << MOST_CARRIERS) + taken] = bestChoice(job, taken);
-                    }
+        private void findBest(int job) {
+            for (int taken = 0; taken <= able; taken++) {
+                if ((taken & ~able) == 0) {
+                    best[(job << MOST_CARRIERS) + taken] = mostWorth(job, taken);
                 }
             }
         }
 
-        private int bestChoice(int job, int taken) {
+        private int mostWorth(int job, int taken) {
             int most = bestFrom(job + 1, taken);
-            for (int carrier = 0; carrier < fleet.size(); carrier++) {
+            for (int carrier = 0; carrier < carrierCount; carrier++) {
                 if (canTake(job, carrier, taken)) {
                     most = Math.max(most, worthWith(job, carrier, taken));
                 }
             }
             return most;
+        }
+
+        /** NONE if the best is reached only where the job is not given out. */
+        private int leastCarrier(int job, int taken) {
+            for (int carrier = 0; carrier < carrierCount; carrier++) {
+                if (canTake(job, carrier, taken)
+                        && worthWith(job, carrier, taken) == bestFrom(job, taken)) {
+                    return carrier;
+                }
+            }
+            return NONE;
         }
 
         private boolean canTake(int job, int carrier, int taken) {
@@ -869,15 +894,12 @@ public final class CarrierPaths {
             return worthOf(job, carrier) + bestFrom(job + 1, taken | (1 << carrier));
         }
 
-        /** NONE if the best is reached only where the job is not given out. */
-        private int leastCarrier(int job, int taken) {
-            for (int carrier = 0; carrier < fleet.size(); carrier++) {
-                if (canTake(job, carrier, taken)
-                        && worthWith(job, carrier, taken) == bestFrom(job, taken)) {
-                    return carrier;
-                }
-            }
-            return NONE;
+        private int worthOf(int job, int carrier) {
+            return worths[job * MOST_CARRIERS + carrier];
+        }
+
+        private int bestFrom(int job, int taken) {
+            return best[(job << MOST_CARRIERS) + taken];
         }
     }
 }
