@@ -5,17 +5,40 @@ final class Check {
     }
 
     private final String name;
+    private String sentence = "";
     private int looked;
+    private int lookedBefore;
     private int wrong;
 
     Check(String name) {
         this.name = name;
     }
 
+    /** What is looked at from here on is asked for by this sentence of the document. */
+    void sentence(String words) {
+        endSentence();
+        sentence = words;
+    }
+
+    private void endSentence() {
+        if (!sentence.isEmpty() && looked == lookedBefore) {
+            say("nothing was looked at");
+        }
+        lookedBefore = looked;
+        sentence = "";
+    }
+
     void is(String what, long due, long got) {
         looked++;
         if (due != got) {
             say(what + " answered " + got + ", due is " + due);
+        }
+    }
+
+    void same(String what, String due, String got) {
+        looked++;
+        if (!due.equals(got)) {
+            say(what + "\n  is  " + got + "\n  due " + due);
         }
     }
 
@@ -53,10 +76,11 @@ final class Check {
 
     void say(String what) {
         wrong++;
-        System.out.println(name + ": " + what);
+        System.out.println(name + ": " + (sentence.isEmpty() ? "" : "\"" + sentence + "\": ") + what);
     }
 
     void end() {
+        endSentence();
         System.out.println(name + ": " + looked + " answers looked at, " + wrong + " not as due");
         if (wrong != 0 || looked == 0) {
             System.exit(1);
